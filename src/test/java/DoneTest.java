@@ -222,5 +222,13 @@ public final class DoneTest {
         Check.due("write", x.write('4'), 7);
         Check.due("land", x.land(), 1);
         Check.due("dark", x.count(3), 34);
+        Check.put(x, "walker 5");
+        x.keep(1);
+        x.erase();
+        Check.put(x, "lock");
+        Check.due("back", x.back(1), 0);
+        Check.due("no fault", x.fault(), WardWalkers.NONE);
+        Check.due("land", x.land(), 1);
+        Check.due("place", x.walker(0, 0), 5);
     }
 }

@@ -47,6 +47,13 @@ public final class ToldTest {
         Check.faultAt(x, "land ; land", WardWalkers.NONE);
         Check.faultAt(x, "lands", 0);
         Check.faultAt(x, "lan", 0);
+        Check.faultAt(x, "bark 20", 0);
+        Check.faultAt(x, "lockz 1 1 1 1", 0);
+        Check.faultAt(x, "zlock 1 1 1 1", 0);
+        Check.faultAt(x, "lock{", 4);
+        Check.faultAt(x, "lock`", 4);
+        Check.faultAt(x, "dark 30:", 7);
+        Check.faultAt(x, "dark 30/", 7);
         Check.faultAt(x, "Land", 0);
         Check.faultAt(x, " land land", 6);
         Check.faultAt(x, "land 1", 5);
