@@ -243,9 +243,9 @@ public final class WardWalkers {
         if (pastCount <= 0) {
             return NOT;
         }
-        pastNext = (pastNext + MOST_PAST - 1) % MOST_PAST;
+        pastNext--;
         pastCount--;
-        now.takeFrom(past[pastNext]);
+        now.takeFrom(pastAt(pastNext));
         return pastCount;
     }
 
@@ -595,9 +595,14 @@ public final class WardWalkers {
     }
 
     private void remember() {
-        past[pastNext].takeFrom(now);
-        pastNext = (pastNext + 1) % MOST_PAST;
+        pastAt(pastNext).takeFrom(now);
+        pastNext++;
         pastCount = Math.min(pastCount + 1, MOST_PAST);
+    }
+
+    /** The past goes round: behind its last place comes the first again. */
+    private Standing pastAt(int place) {
+        return past[Math.floorMod(place, MOST_PAST)];
     }
 
     private int locksFor(Key one, int bent) {
@@ -1294,8 +1299,6 @@ public final class WardWalkers {
 
         /** For each set of the locks, at what minute one walker can be through with it. */
         void walkFrom(int place, int minute, int locks, Country country) {
-            // one that has none to go to counts as 0, which is never the latest
-            tour[0] = 0;
             for (int set = 1; set < LOCK_SETS; set++) {
                 if ((set & ~locks) == 0) {
                     walkThrough(set, place, minute, country);
@@ -1331,7 +1334,7 @@ public final class WardWalkers {
 
         /** The walker whose tours stand now takes its part of each set. */
         void shareWith(int locks) {
-            // from the largest set down: smaller ones must yet be without this walker
+            // from the largest set down: smaller ones must yet be without this walker; where it takes no part, it does not count
             for (int set = LOCK_SETS - 1; set > 0; set--) {
                 if ((set & ~locks) == 0) {
                     for (int part = set; part > 0; part = part - 1 & set) {
