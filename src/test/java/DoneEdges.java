@@ -350,6 +350,14 @@ final class DoneEdges {
         Edges.due("turned again", y.key(0, 4), 1);
         Edges.due("tries, undone", y.undo(), 0);
         Edges.due("found no more", y.count(7), 0);
+        WardWalkers far = Check.told("master 1;lock 99 1 0 3;lock 90 1 0 3;walker 0;walker 9");
+        far.tries(0, 0, 0);
+        far.tries(1, 0, 1);
+        Edges.due("the later way, undone", far.undo(), 1);
+        Edges.due("its walker is back", far.walker(1, 0), 9);
+        Edges.due("the other is there", far.walker(0, 0), 99);
+        Edges.due("the first way, undone", far.undo(), 0);
+        Edges.due("its walker is back", far.walker(0, 0), 0);
         Edges.promise(15, "NOT: none.");
         Edges.refused(WardWalkers::new, "none in a new object", Edges.NOT, WardWalkers::undo);
         Edges.refused(DoneEdges::allUndone, "none behind all", Edges.NOT, WardWalkers::undo);
@@ -380,6 +388,7 @@ final class DoneEdges {
         Edges.due("seen is not kept", x.count(9), 0);
         Edges.due("racks are not kept", x.count(10), 2);
         Edges.due("back 1", x.back(1), 2);
+        everythingKept();
         Edges.promise(16, "UNKNOWN: no such k.");
         for (int k : new int[] {-1, 2, 32, Edges.MIN, Edges.MAX}) {
             Edges.refused(Edges::busy, "keep " + k, Edges.UNKNOWN, y -> y.keep(k));
@@ -404,6 +413,36 @@ final class DoneEdges {
         WardWalkers refusedText = Edges.busy();
         Edges.due("a text with a fault is no text that landed", refusedText.land(), Edges.NOT);
         Edges.due("kept yet", refusedText.back(0), 0);
+    }
+
+    private static void everythingKept() {
+        for (int k = 0; k < 2; k++) {
+            WardWalkers x = Edges.busy();
+            x.undo();
+            x.undo();
+            x.keep(k);
+            Edges.due("the lock is open", x.lock(0, 4), 1);
+            x.shut(0);
+            x.mend(0);
+            x.tries(0, 1, 1);
+            x.tries(1, 2, 1);
+            x.day();
+            x.erase();
+            Check.put(x, "land");
+            Edges.due("back", x.back(k), 0);
+            int[] due = {4, 3, 2, 30, 0, 1, 1, 15, 6, 2, 3, 0, 4};
+            for (int what = 0; what <= 12; what++) {
+                Edges.due("count(" + what + ")", x.count(what), due[what]);
+            }
+            Edges.due("turned", x.key(0, 4), 3);
+            Edges.due("not bent yet", x.key(1, 3), 0);
+            Edges.due("place", x.walker(1, 0), 0);
+            Edges.due("minute", x.walker(1, 1), 0);
+            Edges.due("the text is 'walk' again", x.fault(), 0);
+            Check.put(x, "er 77");
+            Edges.due("it lands", x.land(), 1);
+            Edges.due("as it was told", x.walker(2, 0), 77);
+        }
     }
 
     private static WardWalkers toldAgain() {

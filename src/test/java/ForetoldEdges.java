@@ -109,6 +109,12 @@ final class ForetoldEdges {
         Edges.due("most locks", most.match(Edges.NONE), 2);
         Edges.due("not the lesser key", most.match(0), 1);
         Edges.due("which lock 1 has", most.match(1), 0);
+        for (int k = 0; k < 7; k++) {
+            WardWalkers one = Check.told(Edges.with(Edges.with(Edges.with("", "brass 2", k) + (k == 0 ? "" : ";") + "brass 1", "brass 2", 6 - k), "lock 0 1 0 0", 2));
+            Edges.due("key " + k + " alone, for two locks", one.match(Edges.NONE), 1);
+            Edges.due("the first lock has it", one.match(0), k);
+            Edges.due("the other none", one.match(1), Edges.NONE);
+        }
         WardWalkers busy = Edges.busy();
         Edges.due("an open lock has none", busy.match(0), Edges.NONE);
         busy.shut(0);

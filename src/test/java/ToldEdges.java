@@ -263,8 +263,12 @@ final class ToldEdges {
         fault("walker :7", 7);
         fault("walker 7/", 8);
         fault("walker 7:", 8);
-        fault("azwalker 7", 0);
-        fault("walkeraz 7", 0);
+        fault("walkera 7", 0);
+        fault("walkerz 7", 0);
+        fault("awalker 7", 0);
+        fault("zwalker 7", 0);
+        fault("xalker 7", 0);
+        fault("walkex 7", 0);
         fault("walker 90;walker 09", Edges.NONE);
     }
 
